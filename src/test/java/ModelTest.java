@@ -1,0 +1,215 @@
+import java.util.ArrayList;
+import java.util.List;
+import java.util.Random;
+
+/** Holds the class against the model on many programs and inputs; the seeds are fixed, so each run is the same. */
+public final class ModelTest {
+    private static final Check CHECK = new Check("ModelTest");
+    private static final int BENCHES = Integer.getInteger("benches", 150);
+
+    private final Random random;
+    private final FallBench x = new FallBench();
+    private final List<List<Model.Act>> shelves = new ArrayList<>(List.of(List.of(), List.of(), List.of()));
+    private final List<List<Integer>> inputs = new ArrayList<>();
+    private final int[] endsSeen;
+
+    private ModelTest(long seed, int[] endsSeen) {
+        random = new Random(seed);
+        this.endsSeen = endsSeen;
+    }
+
+    public static void main(String[] args) {
+        int[] endsSeen = new int[5];
+        int[] faultsSeen = new int[5];
+        for (int seed = 0; seed < BENCHES; seed++) {
+            new ModelTest(seed, endsSeen).hold(faultsSeen);
+        }
+        for (int i = 0; i < 5; i++) {
+            CHECK.due("some ended as " + i, endsSeen[i] > 20, true);
+            CHECK.due("some FAULTS were " + i, faultsSeen[i] > 20, true);
+        }
+        CHECK.finish();
+    }
+
+    private void hold(int[] faultsSeen) {
+        for (int n = 0; n < 12; n++) {
+            holdProgram(random.nextInt(3), brokenText(), faultsSeen);
+        }
+        for (int s = 0; s < 3; s++) {
+            holdProgram(s, goodText(), faultsSeen);
+        }
+        int count = 2 + random.nextInt(5);
+        for (int i = 0; i < count; i++) {
+            addInput();
+        }
+        for (int s = 0; s < 3; s++) {
+            holdHeaps(s);
+            for (int i = 0; i < inputs.size(); i++) {
+                holdRun(s, i);
+                holdHeld(s, (s + 1) % 3, i);
+            }
+            holdTrials(s, random.nextInt(inputs.size()));
+        }
+    }
+
+    private int register() {
+        return random.nextInt(4);
+    }
+
+    private String act(int labels) {
+        String name = Model.NAMES.get(random.nextInt(Model.NAMES.size()));
+        if (name.equals("stop") && random.nextInt(3) > 0 || name.equals("jump") && random.nextInt(2) > 0) {
+            name = "in";
+        }
+        StringBuilder b = new StringBuilder(name);
+        int rs = switch (name) {
+            case "in", "set", "jump", "out" -> 1;
+            case "go", "stop" -> 0;
+            default -> 2;
+        };
+        for (int i = 0; i < rs; i++) {
+            b.append(" r").append(register());
+        }
+        if (name.equals("set")) {
+            b.append(' ').append(random.nextInt(4) > 0 ? random.nextInt(40) : random.nextInt(2000000) - 999999);
+        }
+        if (name.equals("go") || name.equals("less") || name.equals("same")) {
+            b.append(' ').append((char) ('a' + random.nextInt(labels)));
+        }
+        return b.toString();
+    }
+
+    private String goodText() {
+        int acts = 3 + random.nextInt(25);
+        int labels = 1 + random.nextInt(5);
+        StringBuilder[] lines = new StringBuilder[acts + 1];
+        for (int i = 0; i <= acts; i++) {
+            lines[i] = new StringBuilder(i == acts ? "" : i < 3 ? "in r" + i : act(labels));
+        }
+        for (int l = 0; l < labels; l++) {
+            lines[random.nextInt(acts + 1)].insert(0, (char) ('a' + l) + ": ");
+        }
+        return String.join("\n", lines);
+    }
+
+    private String brokenText() {
+        // Odd letters alone seldom tell a LABEL twice or want one that is not there.
+        String[] ends = {"", "", "\na: stop", "\ngo z", "\nless r0 r1 y\nb:"};
+        StringBuilder b = new StringBuilder(goodText()).append(ends[random.nextInt(ends.length)]);
+        String odd = "abrst r1 r2:9-\n\n:;A \t0r8r12in stop go a";
+        int changes = random.nextInt(4);
+        for (int i = 0; i < changes; i++) {
+            int at = random.nextInt(b.length());
+            switch (random.nextInt(3)) {
+                case 0 -> b.deleteCharAt(at);
+                case 1 -> b.insert(at, odd.charAt(random.nextInt(odd.length())));
+                default -> b.setCharAt(at, odd.charAt(random.nextInt(odd.length())));
+            }
+        }
+        return b.toString();
+    }
+
+    private void holdProgram(int shelf, String text, int[] faultsSeen) {
+        Model.Parsed p = Model.parse(text);
+        faultsSeen[p.fault()]++;
+        String call = "program of '" + text.replace("\n", "\\n") + "'";
+        CHECK.due(call, Check.program(x, shelf, text), p.fault() == 0 ? p.acts().size() : -1);
+        CHECK.due(call + " fault", x.fault(0), p.fault());
+        CHECK.due(call + " place", x.fault(1), p.place());
+        if (p.fault() == 0) {
+            shelves.set(shelf, p.acts());
+        }
+        List<Model.Act> acts = shelves.get(shelf);
+        CHECK.due(call + " about", x.about(10 + shelf), acts.size());
+        for (int k = 0; k < acts.size(); k++) {
+            Model.Act a = acts.get(k);
+            CHECK.due(call + " kind", x.act(shelf, k, 0), Model.NAMES.indexOf(a.name()));
+            CHECK.due(call + " first", x.act(shelf, k, 1), a.first());
+            CHECK.due(call + " second", x.act(shelf, k, 2), a.second());
+            CHECK.due(call + " number", x.act(shelf, k, 3), a.number());
+        }
+    }
+
+    private void addInput() {
+        List<Integer> bytes = new ArrayList<>();
+        int length = random.nextInt(4) == 0 ? random.nextInt(25) : random.nextInt(6);
+        for (int k = 0; k < length; k++) {
+            bytes.add(random.nextInt(random.nextBoolean() ? 256 : 40));
+        }
+        inputs.add(bytes);
+        CHECK.due("input", Check.input(x, bytes.stream().mapToInt(b -> b).toArray()), inputs.size() - 1);
+    }
+
+    private void holdRun(int shelf, int i) {
+        Model.Ran r = Model.run(shelves.get(shelf), inputs.get(i));
+        endsSeen[r.end]++;
+        CHECK.due("run", x.run(shelf, i), r.end);
+        int[] want = {r.steps, r.act, r.wrong.value(), r.wrong.maker(), Model.bits(r.wrong.bytes()), r.told.size(),
+            r.read};
+        for (int what = 0; what < want.length; what++) {
+            CHECK.due("ran(" + what + ")", x.ran(what), want[what]);
+        }
+        for (int k = 0; k < 45; k++) {
+            CHECK.due("told", x.told(k), k < r.told.size() && k < 40 ? r.told.get(k) : 0);
+        }
+        for (int k = 0; k < 40; k++) {
+            CHECK.due("left", x.left(k), r.cells.get(k).value());
+            CHECK.due("MAKER left", x.leftOf(k, 0), r.cells.get(k).maker());
+            CHECK.due("BYTES left", x.leftOf(k, 1), Model.bits(r.cells.get(k).bytes()));
+        }
+    }
+
+    private void holdHeaps(int shelf) {
+        List<List<Integer>> heaps = Model.heaps(shelves.get(shelf), inputs);
+        CHECK.due("heaps", x.heaps(shelf), heaps.size());
+        int[] of = new int[inputs.size()];
+        java.util.Arrays.fill(of, -1);
+        for (int k = 0; k < heaps.size(); k++) {
+            int least = heaps.get(k).get(0);
+            Model.Ran r = Model.run(shelves.get(shelf), inputs.get(least));
+            int[] want = {least, heaps.get(k).size(), r.end, r.act, r.wrong.maker()};
+            for (int what = 0; what < want.length; what++) {
+                CHECK.due("heap", x.heap(shelf, k, what), want[what]);
+            }
+            for (int i : heaps.get(k)) {
+                of[i] = k;
+            }
+        }
+        for (int i = 0; i < of.length; i++) {
+            CHECK.due("heapOf", x.heapOf(shelf, i), of[i]);
+        }
+    }
+
+    private void holdHeld(int first, int second, int i) {
+        int how = Model.held(shelves.get(first), shelves.get(second), inputs.get(i));
+        CHECK.due("held", x.held(first, second, i), how);
+        int count = 0;
+        for (List<Integer> input : inputs) {
+            count += Model.held(shelves.get(first), shelves.get(second), input) == how ? 1 : 0;
+        }
+        CHECK.due("heldAll", x.heldAll(first, second, how), count);
+    }
+
+    private void holdTrials(int shelf, int i) {
+        List<Model.Act> acts = shelves.get(shelf);
+        List<Integer> input = inputs.get(i);
+        int end = Model.run(acts, input).end;
+        if (end == 0 || end == 4) {
+            CHECK.due("no small", x.small(shelf, i), -1);
+        } else {
+            List<Integer> small = Model.small(acts, input);
+            List<Integer> low = Model.low(acts, small);
+            CHECK.due("small", x.small(shelf, i), small.size());
+            for (int k = 0; k < small.size(); k++) {
+                CHECK.due("small byte", x.smallByte(k, false), small.get(k));
+                CHECK.due("low byte", x.smallByte(k, true), low.get(k));
+            }
+            CHECK.due("behind small", x.smallByte(small.size(), false), -1);
+            CHECK.due("behind low", x.smallByte(small.size(), true), -1);
+        }
+        CHECK.due("ruled", x.ruled(shelf, i), Model.ruled(acts, input));
+        int[] nearest = Model.nearest(acts, input);
+        CHECK.due("nearest", x.nearest(shelf, i), nearest[0]);
+        CHECK.due("nearestByte", x.nearestByte(shelf, i), nearest[1]);
+    }
+}
