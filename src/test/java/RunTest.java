@@ -87,6 +87,11 @@ public final class RunTest {
         x = ran("in r0\nset r0 3\ncopy r1 r2", 0, 9);
         CHECK.due("set has no BYTES", x.leftOf(0, 1), 0);
         CHECK.due("copy of the first", x.leftOf(1, 0), -1);
+        x = ran("in r0\nin r1\nin r2\nin r3\nsub r0 r1\nmul r2 r3", 0, 9, 9, 9, 9);
+        CHECK.due("BYTES of sub", x.leftOf(0, 1), 3);
+        CHECK.due("BYTES of mul", x.leftOf(2, 1), 12);
+        CHECK.due("MAKER of sub", x.leftOf(0, 0), 4);
+        CHECK.due("MAKER of mul", x.leftOf(2, 0), 5);
         x = ran("in r0\nin r1\ncopy r0 r1", 0, 9, 9);
         CHECK.due("copy forgets", x.leftOf(0, 1), 2);
     }

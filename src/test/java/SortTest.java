@@ -105,8 +105,14 @@ public final class SortTest {
         CHECK.due("the same told", x.held(0, 1, 0), 0);
         Check.program(x, 1, "in r0\nin r1\nout r1\nout r0");
         CHECK.due("told in another order", x.held(0, 1, 0), 1);
+        Check.program(x, 1, "in r0\nin r1\nout r1\nout r1");
+        CHECK.due("the first told otherwise", x.held(0, 1, 0), 1);
+        Check.program(x, 1, "in r0\nout r0\nout r0");
+        CHECK.due("the last told otherwise", x.held(0, 1, 0), 1);
         Check.program(x, 1, "in r0\nout r0");
         CHECK.due("fewer told", x.held(0, 1, 0), 1);
+        Check.program(x, 2, "in r1\nout r1");
+        CHECK.due("what an earlier run told is no more", x.held(2, 1, 0), 0);
         Check.program(x, 2, "");
         CHECK.due("none told", x.held(2, 0, 0), 1);
         Check.program(x, 0, "set r1 1\nset r2 45\na:add r0 r1\nout r0\nless r0 r2 a");

@@ -62,6 +62,11 @@ public final class TapeTest {
         CHECK.due("ahead", x.byteOf(1, 1), 6);
         CHECK.due("behind", x.byteOf(1, 2), 10);
         CHECK.due("behind that", x.byteOf(1, 3), 11);
+        x.feed(1, 2, 3, 4, 5);
+        CHECK.due("end of all", x.end(0), 0);
+        CHECK.due("nothing is left", x.about(1), 0);
+        CHECK.due("end of nothing", x.end(0), 0);
+        CHECK.due("end above nothing", x.end(1), -1);
     }
 
     private static void fullTape() {

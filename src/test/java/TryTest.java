@@ -112,6 +112,15 @@ public final class TryTest {
         CHECK.due("BYTES", x.ran(4), 3);
         x = with("in r0\nset r1 32\nsame r0 r1 a\nset r1 33\na:load r2 r1", 5);
         CHECK.due("by the way alone", x.ruled(0, 0), 1);
+        x = with("in r0\nset r1 32\nset r2 0\nsame r0 r2 a\nset r1 33\na:load r2 r1", 5);
+        CHECK.due("by the value 0 alone", x.ruled(0, 0), 1);
+        x = with("in r0\nset r1 32\nset r2 255\nsame r0 r2 a\nset r1 33\na:load r2 r1", 5);
+        CHECK.due("by the value 255 alone", x.ruled(0, 0), 1);
+        x = with("in r0\nset r1 32\nset r2 255\nless r2 r0 a\nset r1 33\na:load r2 r1", 5);
+        CHECK.due("no byte is above 255", x.ruled(0, 0), 0);
+        nearestDue(x, -1, -1);
+        x = with("in r0\nset r1 32\nset r2 255\nless r2 r0 a\nload r2 r1\na:", 5);
+        nearestDue(x, -1, -1);
         x = with("in r0\nset r1 7\nsame r0 r1 a\nset r1 50\nload r2 r1\na:set r1 60\nload r2 r1", 5);
         CHECK.due("another act", x.ruled(0, 0), 0);
         x = with("in r0\nload r1 r0", 3);
