@@ -964,7 +964,8 @@ public final class FallBench {
             int k = 0;
             for (int tried = 0; tried < INPUT_BYTES_MOST && k < smallest.length; tried++) {
                 changed.copyWithout(smallest, k);
-                if (causeStays(p, changed)) {
+                trial.runWhole(p, changed);
+                if (trial.hasCauseOf(asItIs)) {
                     smallest.copyFrom(changed);
                     anyOut = true;
                 } else {
@@ -978,16 +979,12 @@ public final class FallBench {
             int old = lowest.byteAt(k);
             for (int value = 0; value < old; value++) {
                 lowest.setByte(k, value);
-                if (causeStays(p, lowest)) {
+                trial.runWhole(p, lowest);
+                if (trial.hasCauseOf(asItIs)) {
                     return;
                 }
             }
             lowest.setByte(k, old);
-        }
-
-        private boolean causeStays(Program p, Row row) {
-            trial.runWhole(p, row);
-            return trial.hasCauseOf(asItIs);
         }
 
         private boolean byteRules(Program p, int k) {
