@@ -3,6 +3,9 @@ final class Check {
     private final String name;
     private int checked = 0;
     private int wrong = 0;
+    private int edges = 0;
+    private int checkedAtEdge = 0;
+    private String edge = "";
 
     Check(String name) {
         this.name = name;
@@ -12,7 +15,7 @@ final class Check {
         checked++;
         if (got != want) {
             wrong++;
-            System.out.println(name + ": " + call + " answered " + got + ", due is " + want);
+            System.out.println(name + ": " + edge + call + " answered " + got + ", due is " + want);
         }
     }
 
@@ -20,8 +23,26 @@ final class Check {
         due(call, got ? 1 : 0, want ? 1 : 0);
     }
 
+    /** From here on the answers are held against this sentence of the document, which names a boundary case. */
+    void edge(int promise, String sentence) {
+        closeEdge();
+        edges++;
+        edge = "promise " + promise + " '" + sentence + "': ";
+        checkedAtEdge = checked;
+    }
+
+    /** A sentence for which nothing was asked is not tested, so that counts as wrong. */
+    private void closeEdge() {
+        if (edges > 0 && checked == checkedAtEdge) {
+            wrong++;
+            System.out.println(name + ": " + edge + "nothing was asked");
+        }
+    }
+
     void finish() {
-        System.out.println(name + ": " + checked + " answers, " + wrong + " not as due");
+        closeEdge();
+        String told = edges > 0 ? edges + " boundary sentences, " : "";
+        System.out.println(name + ": " + told + checked + " answers, " + wrong + " not as due");
         if (wrong != 0) {
             System.exit(1);
         }
@@ -40,14 +61,36 @@ final class Check {
         x.end(bytes.length);
     }
 
-    static int program(FallBench x, int shelf, String text) {
+    static void lay(FallBench x, String text) {
         lay(x, text.chars().toArray());
+    }
+
+    static int program(FallBench x, int shelf, String text) {
+        lay(x, text);
         return x.program(shelf);
+    }
+
+    /** A new bench with the text on SHELF 0 and the bytes as INPUT 0. */
+    static FallBench bench(String text, int... bytes) {
+        FallBench x = new FallBench();
+        if (program(x, 0, text) < 0) {
+            throw new IllegalArgumentException("the test's own program has a FAULT: " + text);
+        }
+        input(x, bytes);
+        return x;
     }
 
     static int input(FallBench x, int... bytes) {
         lay(x, bytes);
         return x.input();
+    }
+
+    /** The bytes of an INPUT, and that there are no more. */
+    void bytesDue(FallBench x, int input, int... want) {
+        for (int k = 0; k < want.length; k++) {
+            due("byteOf(" + input + ", " + k + ")", x.byteOf(input, k), want[k]);
+        }
+        due("byteOf(" + input + ", " + want.length + ")", x.byteOf(input, want.length), FallBench.NONE);
     }
 
     void faultDue(String text, int fault, int place) {
