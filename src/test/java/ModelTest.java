@@ -6,9 +6,13 @@ import java.util.Random;
 public final class ModelTest {
     private static final Check CHECK = new Check("ModelTest");
     private static final int BENCHES = Integer.getInteger("benches", 150);
+    /** What an object answers behind these is free. */
+    private static final int CALLS_MOST = 512;
 
     private final Random random;
-    private final FallBench x = new FallBench();
+    private FallBench x = new FallBench();
+    private int callsLeft = CALLS_MOST;
+    private final String[] texts = {"", "", ""};
     private final List<List<Model.Act>> shelves = new ArrayList<>(List.of(List.of(), List.of(), List.of()));
     private final List<List<Integer>> inputs = new ArrayList<>();
     private final int[] endsSeen;
@@ -50,6 +54,38 @@ public final class ModelTest {
             }
             holdTrials(s, random.nextInt(inputs.size()));
         }
+    }
+
+    /** Goes on with a new object of the same programs and INPUTS if the old one has not so many calls left. */
+    private void willCall(int most) {
+        if (callsLeft < most) {
+            x = new FallBench();
+            callsLeft = CALLS_MOST;
+            for (int s = 0; s < 3; s++) {
+                layOn(s, texts[s]);
+            }
+            for (List<Integer> bytes : inputs) {
+                layInput(bytes);
+            }
+        }
+        callsLeft -= most;
+        if (callsLeft < 0) {
+            throw new IllegalStateException("the test itself asks too much of one object");
+        }
+    }
+
+    private int layOn(int shelf, String text) {
+        callsLeft -= callsToLay(text.length()) + 1;
+        return Check.program(x, shelf, text);
+    }
+
+    private int layInput(List<Integer> bytes) {
+        callsLeft -= callsToLay(bytes.size()) + 1;
+        return Check.input(x, bytes.stream().mapToInt(b -> b).toArray());
+    }
+
+    private static int callsToLay(int length) {
+        return (length + 19) / 20 + 1;
     }
 
     private int register() {
@@ -113,11 +149,14 @@ public final class ModelTest {
         Model.Parsed p = Model.parse(text);
         faultsSeen[p.fault()]++;
         String call = "program of '" + text.replace("\n", "\\n") + "'";
+        int actsThen = p.fault() == 0 ? p.acts().size() : shelves.get(shelf).size();
+        willCall(callsToLay(text.length()) + 4 + 4 * actsThen);
         CHECK.due(call, Check.program(x, shelf, text), p.fault() == 0 ? p.acts().size() : -1);
         CHECK.due(call + " fault", x.fault(0), p.fault());
         CHECK.due(call + " place", x.fault(1), p.place());
         if (p.fault() == 0) {
             shelves.set(shelf, p.acts());
+            texts[shelf] = text;
         }
         List<Model.Act> acts = shelves.get(shelf);
         CHECK.due(call + " about", x.about(10 + shelf), acts.size());
@@ -136,6 +175,7 @@ public final class ModelTest {
         for (int k = 0; k < length; k++) {
             bytes.add(random.nextInt(random.nextBoolean() ? 256 : 40));
         }
+        willCall(callsToLay(bytes.size()) + 1);
         inputs.add(bytes);
         CHECK.due("input", Check.input(x, bytes.stream().mapToInt(b -> b).toArray()), inputs.size() - 1);
     }
@@ -143,6 +183,7 @@ public final class ModelTest {
     private void holdRun(int shelf, int i) {
         Model.Ran r = Model.run(shelves.get(shelf), inputs.get(i));
         endsSeen[r.end]++;
+        willCall(8 + 45 + 3 * 40);
         CHECK.due("run", x.run(shelf, i), r.end);
         int[] want = {r.steps, r.act, r.wrong.value(), r.wrong.maker(), Model.bits(r.wrong.bytes()), r.told.size(),
             r.read};
@@ -161,6 +202,7 @@ public final class ModelTest {
 
     private void holdHeaps(int shelf) {
         List<List<Integer>> heaps = Model.heaps(shelves.get(shelf), inputs);
+        willCall(1 + 5 * heaps.size() + inputs.size());
         CHECK.due("heaps", x.heaps(shelf), heaps.size());
         int[] of = new int[inputs.size()];
         java.util.Arrays.fill(of, -1);
@@ -182,6 +224,7 @@ public final class ModelTest {
 
     private void holdHeld(int first, int second, int i) {
         int how = Model.held(shelves.get(first), shelves.get(second), inputs.get(i));
+        willCall(2);
         CHECK.due("held", x.held(first, second, i), how);
         int count = 0;
         for (List<Integer> input : inputs) {
@@ -194,6 +237,7 @@ public final class ModelTest {
         List<Model.Act> acts = shelves.get(shelf);
         List<Integer> input = inputs.get(i);
         int end = Model.run(acts, input).end;
+        willCall(6 + 2 * input.size());
         if (end == 0 || end == 4) {
             CHECK.due("no small", x.small(shelf, i), -1);
         } else {
