@@ -747,8 +747,8 @@ public final class FallBench {
         }
 
         private void doAct(Program p, int act, Row from) {
-            int r = p.firsts[act];
-            int s = p.seconds[act];
+            int r = asRegister(p.firsts[act]);
+            int s = asRegister(p.seconds[act]);
             int number = p.numbers[act];
             next = act + 1;
             switch (p.kinds[act]) {
@@ -842,6 +842,11 @@ public final class FallBench {
 
         private static boolean isPlace(int value) {
             return value >= 0 && value < PLACES;
+        }
+
+        /** An act without a register has NONE there: it uses none, but NONE must not come near an index. */
+        private static int asRegister(int named) {
+            return named >= 0 && named < REGISTERS ? named : 0;
         }
     }
 

@@ -68,6 +68,7 @@ public final class FaceTest {
             CHECK.due("at most twenty fields: " + c, c.getDeclaredFields().length <= 20, true);
             for (Method m : c.getDeclaredMethods()) {
                 CHECK.due("no name of the face: " + m, names.contains(m.getName()), false);
+                CHECK.due("at most seven parameters: " + m, m.getParameterCount() <= 7, true);
             }
         }
     }
